@@ -37,7 +37,6 @@ public final class FloatOrder {
   private static final int COUNTS = 9;
 
   private static final long DIGEST_START = 2971L;
-  private static final double MANTISSA_UNIT = 4503599627370496.0;
   private static final int MANTISSA_BITS = 52;
   private static final int EXPONENT_BIAS = 1023;
 
@@ -487,7 +486,7 @@ public final class FloatOrder {
       scaled = scaled * 2.0;
       exponent--;
     }
-    long mantissa = (long) ((scaled - 1.0) * MANTISSA_UNIT);
+    long mantissa = (long) ((scaled - 1.0) * (double) (1L << MANTISSA_BITS));
     return (exponent << MANTISSA_BITS) + mantissa;
   }
 

@@ -3,10 +3,13 @@ import java.lang.reflect.Field;
 import java.lang.reflect.Method;
 import java.lang.reflect.Modifier;
 import java.util.Arrays;
+import java.util.Set;
 import java.util.TreeSet;
 
 /** The class shows the document's face, and nothing else. */
 public final class FaceTest {
+  private static final Set<Class<?>> CONSTANTS = Set.of(int.class, long.class, boolean.class, char.class, String.class,
+      int[].class, long[].class, char[].class, byte[].class);
   private static final String[] METHODS = {
       "int put(int, int, int, int) IndexOutOfBoundsException IllegalArgumentException IllegalStateException",
       "int remove(int) IndexOutOfBoundsException",
@@ -61,8 +64,10 @@ public final class FaceTest {
     for (Field field : face.getDeclaredFields()) {
       boolean isConstant = field.getName().equals("NONE");
       Check.holds(field + " is private", isConstant || Modifier.isPrivate(field.getModifiers()));
-      Check.holds(field + " is final if it is static",
-          !Modifier.isStatic(field.getModifiers()) || Modifier.isFinal(field.getModifiers()));
+    }
+    staticFieldsAreConstants(face);
+    for (Class<?> inside : face.getDeclaredClasses()) {
+      staticFieldsAreConstants(inside);
     }
     Field none = face.getField("NONE");
     Check.same("NONE is public, static and final", none.getModifiers(),
@@ -74,6 +79,16 @@ public final class FaceTest {
               && Modifier.isStatic(inside.getModifiers()));
     }
     Check.end("FaceTest");
+  }
+
+  /** LANGUAGE.md, rule 5. */
+  private static void staticFieldsAreConstants(Class<?> owner) {
+    for (Field field : owner.getDeclaredFields()) {
+      if (Modifier.isStatic(field.getModifiers())) {
+        Check.holds(field + " is final", Modifier.isFinal(field.getModifiers()));
+        Check.holds(field + " is of a type that a constant may have", CONSTANTS.contains(field.getType()));
+      }
+    }
   }
 
   private static String told(Method method) {

@@ -425,7 +425,8 @@ public final class PromiseTest {
     x.undo();
     heights("putAll, undone", x, 25);
     Check.same("undo leaves the buffer", x.clearBuffer(), 0);
-    for (String wrong : new String[] {"", "c", "c1", "c10;", "h10!", "h10!c;", "c10;x", "c10x", "c10!c", "h10!hc", "x"}) {
+    for (String wrong : new String[] {"", "c", "c1", "c10;", "h10!", "h10!c;", "c10;x", "c10x", "c10!c", "h10!hc",
+        "x"}) {
       x.clearBuffer();
       write(x, wrong);
       refused("putAll of '" + wrong + "'", x, ARGUMENT, x::putAll);
@@ -516,7 +517,8 @@ public final class PromiseTest {
     FloatOrder x = with(text);
     x.set(0, bandsApart);
     for (int place = 0; place < due.length; place++) {
-      Check.same(text + ", " + bandsApart + ": trouble(" + place + ", " + reason + ")", x.trouble(place, reason), due[place]);
+      String what = text + ", " + bandsApart + ": trouble(" + place + ", " + reason + ")";
+      Check.same(what, x.trouble(place, reason), due[place]);
     }
   }
 
