@@ -97,10 +97,10 @@ public final class WouldBeEdgesTest {
     for (int place = 0; place < 12; place++) {
       Check.same("bestPlace(" + place + ")", x.bestPlace(place), 0);
     }
-    // A cart between or behind two bands three places apart changes nothing; ahead of them nothing, too.
+    // With the cart at 0 or at 4 the bands are three places apart, otherwise four: there is no trouble anywhere.
     FloatOrder y = Parades.with("b20;c21;c22;c23;b24");
     Check.same("the lowest of several without trouble", y.bestPlace(3), 0);
-    // A giant at 0 or 1 would stand at the other one: 2 for g c, 2 for none; at 3 it is apart, and at 4, too.
+    // At 0 and at 1 the giant stands beside the other one; at 2, 3 and 4 it does not.
     FloatOrder z = Parades.with("g20;g21;c22;c23;c24");
     Check.same("not the first, but the lowest of several", z.bestPlace(1), 2);
   }
