@@ -135,6 +135,18 @@ final class Parades {
   static void refused(String what, Made made, Class<?> due, Call call) {
     Class<?> thrown = thrown(made.make(), call);
     Check.holds(what + " threw " + thrown + ", due is " + due, thrown == due);
+    leavesAllAsItWas(what, made, call);
+  }
+
+  /** The call answers the same each time, and every later answer is as if it had not been. */
+  static void looksAlone(String what, Made made, Call call) {
+    answered(what, made, call);
+    FloatOrder x = made.make();
+    Check.same(what + " once more", call.on(x), call.on(x));
+    leavesAllAsItWas(what, made, call);
+  }
+
+  private static void leavesAllAsItWas(String what, Made made, Call call) {
     long[] before = KNOWN.computeIfAbsent(made, own -> answers(own, x -> 0));
     Check.holds(what + " changed an answer", Arrays.equals(answers(made, call), before));
   }
